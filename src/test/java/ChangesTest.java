@@ -8,6 +8,7 @@ public final class ChangesTest {
     public static void main(String[] args) {
         promise21Undo();
         promise21UndoOfEveryChange();
+        changesStandOnTheHouseAlone();
         promise21UndoLeavesTheText();
         promise21AtMostFourStates();
         promise21ChangesAfterUndo();
@@ -46,6 +47,39 @@ public final class ChangesTest {
             before.set(10, after.get(10));
             Check.isTrue("undo of change " + kind + " restores", before.equals(after));
             Check.equal("worth of a band", x.worth(2, 1), 201);
+        }
+    }
+
+    /** What was tried by fault or play, or undone, leaves no trace in the next change. */
+    private static void changesStandOnTheHouseAlone() {
+        for (int kind = 0; kind < 13; kind++) {
+            CupReceipts x = furnished();
+            Check.write(x, "l7,77;b0,3,1,3;s14,9;m3;c1;d9;");
+            Check.equal("fault", x.fault(2), Check.INVALID);
+            Check.equal("play", x.play(), Check.IMPOSSIBLE);
+            change(x, kind);
+            sameHouse("change " + kind + " after a fault", x, kind);
+            CupReceipts y = furnished();
+            y.set(2, 9);
+            y.lot(8, 88);
+            y.pass(1);
+            for (int left = 3; left > 0; left--) {
+                Check.equal("undo", y.undo(), left);
+            }
+            change(y, kind);
+            sameHouse("change " + kind + " after undo", y, kind);
+        }
+    }
+
+    private static void sameHouse(String what, CupReceipts x, int kind) {
+        CupReceipts due = furnished();
+        change(due, kind);
+        List<Integer> got = Check.view(x);
+        List<Integer> wanted = Check.view(due);
+        got.set(10, wanted.get(10));
+        Check.isTrue(what, got.equals(wanted));
+        for (int band = 0; band < 4; band++) {
+            Check.equal(what + ": worth", x.worth(band, 1), due.worth(band, 1));
         }
     }
 

@@ -116,6 +116,9 @@ public final class ContractsTest {
         Check.equal("the other is contract 0 now", x.contractOf(0, 1), 50);
         Check.equal("not enough", x.meet(0), Check.IMPOSSIBLE);
         Check.equal("bags left", x.lotOf(0, 0), 3);
+        x.lot(6, 70);
+        Check.equal("one bag is missing", x.meet(0), Check.IMPOSSIBLE);
+        x.undo();
         x.lot(7, 70);
         Check.equal("just enough", x.meet(0), 3 * 65 + 7 * 20);
         Check.equal("lots", x.count(0), 1);

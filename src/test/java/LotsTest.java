@@ -161,6 +161,24 @@ public final class LotsTest {
         Check.equal("gone", x.lotOf(5, 0), Check.INVALID);
         Check.equal("stays", x.lotOf(4, 0), 12);
         Check.equal("a fall by being old", blendOfOldBags(), 60);
+        lotsBehindOneThatIsGone();
+    }
+
+    private static void lotsBehindOneThatIsGone() {
+        CupReceipts x = new CupReceipts();
+        for (int month = 0; month < 5; month++) {
+            x.lot(10 + month, 80 + month);
+            x.pass(1);
+        }
+        x.blend(0, 10, 2, 12);
+        int[] left = {1, 3, 4};
+        for (int index = 0; index < 3; index++) {
+            int lot = left[index];
+            Check.equal("number", x.numberOf(index), lot);
+            Check.equal("bags", x.lotOf(lot, 0), 10 + lot);
+            Check.equal("cup", x.lotOf(lot, 1), 80 + lot);
+            Check.equal("month", x.lotOf(lot, 2), lot);
+        }
     }
 
     private static int blendOfOldBags() {

@@ -370,8 +370,12 @@ public final class TellingTest {
         x.worth(1, 1);
         Check.equal("the last of 24 months", x.bestMonth(300, 0), 23);
         Check.equal("gain", x.bestMonth(300, 1), 1000299);
-        x.pass(12);
-        Check.equal("a year later", x.bestMonth(300, 0), 11);
+        x.set(1, 1);
+        Check.equal("24 months ahead is too far", x.bestMonth(300, 0), 0);
+        x.pass(1);
+        Check.equal("23 months ahead", x.bestMonth(300, 0), 23);
+        Check.equal("least price", x.bestMonth(1, 1), 1000000);
+        Check.equal("greatest price", x.bestMonth(999, 1), 1000998);
     }
 
     private static void fallsBelow70() {
@@ -413,8 +417,9 @@ public final class TellingTest {
         x.meet(0);
         x.pass(4);
         Check.write(x, "l1");
-        // paid: 100 a bag of 80 (gain -100) or 70 a bag of 70 (gain -80): ten of lot 1
-        int[] due = {3, 47, 4, 1, 700 - 200, 1, 1, 10, 30, 3, 4, 2};
+        x.lot(5, 70);
+        // paid: 100 a bag of 80 (gain -100) or 70 a bag of 70 (gain -80): ten of lot 1, which is of 69 now
+        int[] due = {4, 52, 4, 1, 700 - 200, 1, 1, 10, 35, 4, 4, 2};
         for (int what = 0; what < due.length; what++) {
             Check.equal("count " + what, x.count(what), due[what]);
         }
