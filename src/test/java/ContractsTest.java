@@ -93,6 +93,20 @@ public final class ContractsTest {
         Check.equal("dearest", x.buyBack(0, 999), -249500);
         Check.equal("is a change", x.undo(), 3);
         Check.equal("account", x.count(4), 24900);
+        buyBackOfSix();
+    }
+
+    private static void buyBackOfSix() {
+        CupReceipts x = new CupReceipts();
+        for (int contract = 0; contract < 6; contract++) {
+            x.sell(2, 10 + contract);
+        }
+        Check.equal("the first of six", x.buyBack(0, 10), 0);
+        Check.equal("the last of five", x.buyBack(4, 15), 0);
+        for (int contract = 0; contract < 4; contract++) {
+            Check.equal("those that are left", x.contractOf(contract, 1), 11 + contract);
+        }
+        Check.equal("no more", x.contractOf(4, 1), Check.INVALID);
     }
 
     private static void promise9Meet() {
@@ -145,6 +159,22 @@ public final class ContractsTest {
         Check.equal("79 is gone", x.lotOf(0, 0), Check.INVALID);
         Check.equal("the lower number of two with the same gain", x.lotOf(1, 0), 1);
         Check.equal("the higher number", x.lotOf(2, 0), 4);
+        meetAfterOneOfMoreLots();
+    }
+
+    private static void meetAfterOneOfMoreLots() {
+        CupReceipts x = new CupReceipts();
+        x.set(0, 5);
+        x.set(1, 4095);
+        x.lot(3, 80);
+        x.lot(12, 80);
+        x.sell(0, 300);
+        x.sell(0, 200);
+        Check.equal("of two lots", x.meet(0), 1500);
+        x.lot(10, 80);
+        Check.equal("of one lot", x.meet(0), 1000);
+        Check.equal("five more of the one", x.lotOf(1, 0), 5);
+        Check.equal("none of the other", x.lotOf(2, 0), 10);
     }
 
     private static void promise9MeetErrors() {

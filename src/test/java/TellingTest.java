@@ -281,6 +281,13 @@ public final class TellingTest {
         Check.equal("100 needs 100", x.lift(0, 2, 100), Check.MISSING);
         x.lot(1, 100);
         Check.equal("100 with 100", x.lift(2, 3, 100), 1);
+        x.lot(5, 78);
+        x.lot(10, 81);
+        x.lot(10, 83);
+        Check.equal("by 1 a bag", x.lift(4, 5, 80), 10);
+        Check.equal("10 by 3 a bag", x.lift(4, 6, 80), 4);
+        Check.equal("5 by 4 a bag", x.lift(4, 6, 79), 2);
+        Check.equal("15 by 2 a bag", x.lift(4, 6, 81), 8);
     }
 
     private static void promise18LiftBeyondTheLimits() {
