@@ -267,6 +267,15 @@ public final class ContractEdgesTest {
         Check.equal("gone", y.lotOf(0, 0), Check.INVALID);
     }
 
+    /** "In its month a contract can be met": also if that is no delivery month any more. */
+    private static void promise9WhateverSetting1IsNow() {
+        CupReceipts x = Make.lots(100, 80);
+        x.sell(2, 200);
+        x.set(1, 1);
+        x.pass(2);
+        Check.equal("meet", x.meet(0), 20000);
+    }
+
     private static void promise9BagsByTheSetting() {
         int[] settings = {1, 2, 249, 250};
         for (int bags : settings) {
@@ -399,6 +408,15 @@ public final class ContractEdgesTest {
             Check.equal("fail", x.pass(24), 2);
             Check.equal("account", x.count(4), 2 * one[2]);
         }
+    }
+
+    /** The setting of the month that goes by, not of that in which the contract was sold. */
+    private static void promise10WhatFailingCostsThen() {
+        CupReceipts x = sold(2, 5);
+        x.pass(2);
+        x.set(4, 7);
+        Check.equal("fail", x.pass(1), 1);
+        Check.equal("account", x.count(4), -700);
     }
 
     private static void promise10WhatIsMetOrBoughtBackDoesNotFail() {

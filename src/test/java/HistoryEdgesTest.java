@@ -99,6 +99,18 @@ public final class HistoryEdgesTest {
         Check.equal("the second is gone", x.lotOf(1, 0), Check.INVALID);
     }
 
+    /** A change after undo stands on what was restored: what was undone shows in none of its kinds. */
+    private static void promise21ChangesAfterUndo() {
+        for (Change change : CHANGES) {
+            CupReceipts x = furnishedInThreeChanges();
+            x.pass(1);
+            Check.equal("undo", x.undo(), 3);
+            CupReceipts y = furnishedInThreeChanges();
+            Check.equal(change.name, change.call.applyAsInt(x), change.call.applyAsInt(y));
+            Check.same(change.name, Check.view(x), Check.view(y));
+        }
+    }
+
     /** "Restores the latest state of the history" */
     private static void promise21RestoresEverythingBeforeTheChange() {
         for (Change change : CHANGES) {

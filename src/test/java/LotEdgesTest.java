@@ -336,6 +336,21 @@ public final class LotEdgesTest {
         Check.equal("the only one", x.numberOf(0), 3);
     }
 
+    private static void promise4TheOthersStayAsTheyWere() {
+        CupReceipts x = new CupReceipts();
+        for (int lot = 0; lot < 5; lot++) {
+            x.lot(10 + lot, 80 + lot);
+            x.pass(1);
+        }
+        x.blend(0, 10, 2, 12);
+        int[] left = {1, 3, 4};
+        for (int lot : left) {
+            Check.equal("bags of " + lot, x.lotOf(lot, 0), 10 + lot);
+            Check.equal("cup of " + lot, x.lotOf(lot, 1), 80 + lot);
+            Check.equal("month of " + lot, x.lotOf(lot, 2), lot);
+        }
+    }
+
     // Promise 5: cup
 
     private static void promise5NoSuchLot() {

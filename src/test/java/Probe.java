@@ -4,6 +4,8 @@ import java.util.function.Supplier;
 
 /** All that later calls can show of an object: of two that were treated alike it is the same. */
 final class Probe {
+    private static final int KINDS_OF_CHANGES = 10;
+
     private Probe() {
     }
 
@@ -18,7 +20,9 @@ final class Probe {
         }
         shown.addAll(ofWorths(maker.get()));
         shown.addAll(ofTheText(maker.get()));
-        shown.addAll(ofTheFuture(maker.get()));
+        for (int kind = 0; kind < KINDS_OF_CHANGES; kind++) {
+            shown.addAll(ofTheFuture(maker.get(), kind));
+        }
         return shown;
     }
 
@@ -105,16 +109,40 @@ final class Probe {
         return List.of(x.fault(0), x.fault(1), x.fault(2));
     }
 
-    private static List<Integer> ofTheFuture(CupReceipts x) {
+    /** What each change would do next: something hidden in the object may show in one kind alone. */
+    private static List<Integer> ofTheFuture(CupReceipts x, int kind) {
         List<Integer> shown = new ArrayList<>();
-        shown.add(x.set(4, 321));
-        shown.add(x.meet(0));
-        shown.add(x.lot(3, 90));
-        shown.add(x.sell(x.count(2) + 2, 5));
-        shown.add(x.cup(x.numberOf(0)));
-        shown.add(x.pass(1));
-        shown.add(x.pass(8));
+        shown.add(change(x, kind));
         shown.addAll(Check.view(x));
+        shown.add(x.pass(1));
+        shown.add(x.count(4));
         return shown;
+    }
+
+    private static int change(CupReceipts x, int kind) {
+        int one = x.numberOf(0);
+        int other = x.numberOf(1);
+        switch (kind) {
+            case 0:
+                return x.lot(3, 90);
+            case 1:
+                return x.part(one, 2);
+            case 2:
+                return x.blend(one, x.lotOf(one, 0), other, 1);
+            case 3:
+                return x.cup(one);
+            case 4:
+                return x.worth(2, 5);
+            case 5:
+                return x.sell(x.count(2) + 2, 5);
+            case 6:
+                return x.buyBack(0, 5);
+            case 7:
+                return x.meet(0);
+            case 8:
+                return x.pass(8);
+            default:
+                return x.set(4, 321);
+        }
     }
 }

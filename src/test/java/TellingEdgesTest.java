@@ -177,6 +177,19 @@ public final class TellingEdgesTest {
         }
     }
 
+    /** "its cup now", not that of its certificate */
+    private static void promise15PremiumByTheCupNow() {
+        CupReceipts x = Make.lots(5, 84);
+        x.set(2, 10);
+        x.set(3, 0);
+        x.pass(3);
+        Check.equal("84", x.paid(0, 600, 0), 640);
+        x.pass(1);
+        Check.equal("83", x.paid(0, 600, 0), 630);
+        x.pass(20);
+        Check.equal("78", x.paid(0, 600, 0), 580);
+    }
+
     /** "less setting 3 times how many months its certificate is older than 3 months" */
     private static void promise15DiscountByAge() {
         int[] discounts = {0, 1, 50};
@@ -216,6 +229,12 @@ public final class TellingEdgesTest {
         x.worth(3, 999);
         x.set(2, 0);
         Check.equal("none", x.paid(1, 999, 1), 10000);
+        CupReceipts y = Make.lots(5, 80);
+        y.set(3, 0);
+        y.pass(3);
+        Check.equal("80", y.paid(0, 400, 1), 10200);
+        y.pass(1);
+        Check.equal("79 is worth less", y.paid(0, 400, 1), 10000 + 397 - 150);
     }
 
     // Promise 16: given
@@ -299,6 +318,15 @@ public final class TellingEdgesTest {
         }
     }
 
+    /** The gain of a bag for which at least 1 is paid is by that 1. */
+    private static void promise16OrderWhereAtLeast1IsPaid() {
+        CupReceipts x = Make.lots(9, 80, 9, 75);
+        x.set(2, 50);
+        x.sell(2, 1);
+        Check.equal("1 less 150", x.given(0, 0, 0), 1);
+        Check.equal("1 less 200", x.given(0, 1, 0), 0);
+    }
+
     // Promise 17: would
 
     private static void promise17NoSuchContract() {
@@ -346,6 +374,9 @@ public final class TellingEdgesTest {
         Check.equal("the greatest", y.would(0, 1), 1000000 + 250 * 1998);
         Check.equal("the most that is paid", y.would(0, 0), 250 * 1999);
         Check.equal("none", contractFor(100, 80).would(0, 1), 1000000);
+        CupReceipts z = contractFor(40, 79, 50, 81, 30, 80, 5, 90);
+        Check.equal("of three lots", z.would(0, 1), 1000000 + 40 * 47 + 50 * 3 + 10 * 0);
+        Check.equal("paid for three lots", z.would(0, 0), 40 * 197 + 50 * 203 + 10 * 200);
     }
 
     /** "2: how many lots would be used up" */
@@ -649,6 +680,24 @@ public final class TellingEdgesTest {
         for (int what = 0; what < 5; what++) {
             Check.equal("setting " + what, x.count(20 + what), settings[what]);
         }
+    }
+
+    /** "5: contracts that were met so far; 6: failed ones so far; 7: bags that were given so far" */
+    private static void promise20SoFar() {
+        CupReceipts x = Make.oneBagContracts(20, 80);
+        for (int month = 0; month < 3; month++) {
+            x.set(0, month + 2);
+            x.sell(month, 100);
+            x.sell(month, 100);
+            x.sell(month, 100);
+            x.meet(0);
+            x.pass(1);
+            Check.equal("met", x.count(5), month + 1);
+            Check.equal("failed", x.count(6), 2 * month + 2);
+        }
+        Check.equal("given", x.count(7), 2 + 3 + 4);
+        Check.equal("left", x.count(1), 20 - 9);
+        Check.equal("account", x.count(4), 9 * 100 - 2 * 9 * 20);
     }
 
     /** "8: bags that can be given now" */
