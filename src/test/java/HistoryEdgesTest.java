@@ -13,7 +13,10 @@ public final class HistoryEdgesTest {
             new Change("part", x -> x.part(0, 5)),
             new Change("blend", x -> x.blend(0, 20, 1, 5)),
             new Change("cup", x -> x.cup(0)),
-            new Change("worth", x -> x.worth(3, 5)),
+            new Change("worth 0", x -> x.worth(0, 5)),
+            new Change("worth 1", x -> x.worth(1, 5)),
+            new Change("worth 2", x -> x.worth(2, 5)),
+            new Change("worth 3", x -> x.worth(3, 5)),
             new Change("sell", x -> x.sell(8, 5)),
             new Change("buyBack below 0", x -> x.buyBack(0, 999)),
             new Change("buyBack above 0", x -> x.buyBack(1, 1)),
@@ -146,7 +149,8 @@ public final class HistoryEdgesTest {
                 Check.equal("undo of " + change.name, x.undo(), 3);
                 return x;
             };
-            Check.same(change.name, Probe.shownWithoutHistory(changed), Probe.shownWithoutHistory(Make::furnished));
+            Check.same(change.name, Probe.shownWithoutHistory(changed),
+                    Probe.shownWithoutHistory(Make::furnished));
             for (int undos = 1; undos <= 3; undos++) {
                 int asked = undos;
                 Check.same(undos + " more after " + change.name, Probe.shownWithoutHistory(() -> undone(changed, asked)),

@@ -359,6 +359,19 @@ public final class TellingEdgesTest {
         Check.equal("met", x.meet(0), 20000);
     }
 
+    /** "would bring now": cups and ages are those of this month, not of its month. */
+    private static void promise17AsOfNow() {
+        CupReceipts x = Make.lots(100, 84);
+        x.sell(998, 200);
+        Check.equal("paid", x.would(0, 0), 21200);
+        Check.equal("gain", x.would(0, 1), 1001200);
+        Check.equal("mean cup", x.would(0, 3), Float.floatToIntBits(84f));
+        x.pass(8);
+        Check.equal("82 and 5 months too old", x.would(0, 0), 19600);
+        Check.equal("gain", x.would(0, 1), 999600);
+        Check.equal("mean cup", x.would(0, 3), Float.floatToIntBits(82f));
+    }
+
     /** "1: the gain together plus 1000000" */
     private static void promise17GainTogether() {
         CupReceipts x = Make.lots(250, 70);
