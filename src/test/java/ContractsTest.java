@@ -152,7 +152,8 @@ public final class ContractsTest {
         x.lot(2, 80);
         x.lot(4, 80);
         x.lot(1, 99);
-        // 79 is 78 now and 3 months too old: 300 - 20 - 6 - 150 = 124; 80: 300 - 200 = 100, twice; 99: 300 + 190 - 300 = 190
+        // 79 is 78 now and 3 months too old: 300 - 20 - 6 - 150 = 124;
+        // 80: 300 - 200 = 100, twice; 99: 300 + 190 - 300 = 190
         x.sell(6, 300);
         Check.equal("meet", x.meet(0), 490 + 3 * 274 + 300);
         Check.equal("99 is gone", x.lotOf(3, 0), Check.INVALID);

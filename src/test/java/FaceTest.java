@@ -1,11 +1,16 @@
+import java.io.IOException;
 import java.lang.reflect.Constructor;
 import java.lang.reflect.Field;
 import java.lang.reflect.Member;
 import java.lang.reflect.Method;
 import java.lang.reflect.Modifier;
+import java.nio.file.Files;
+import java.nio.file.Path;
 import java.util.Arrays;
 import java.util.Set;
 import java.util.TreeSet;
+import java.util.regex.Matcher;
+import java.util.regex.Pattern;
 
 /** The public face: every name, type and value of it, and nothing more that can be reached. */
 public final class FaceTest {
@@ -18,7 +23,7 @@ public final class FaceTest {
     private FaceTest() {
     }
 
-    public static void main(String[] args) throws IllegalAccessException {
+    public static void main(String[] args) throws IllegalAccessException, IOException {
         Class<?> face = CupReceipts.class;
         Check.equal("public final", face.getModifiers(), Modifier.PUBLIC | Modifier.FINAL);
         Check.isTrue("methods", methods(face).equals(new TreeSet<>(Arrays.asList(METHODS))));
@@ -30,6 +35,7 @@ public final class FaceTest {
             Check.isTrue(inside + " is static", Modifier.isStatic(inside.getModifiers()));
             noPrivateMethodHasAPublicName(inside);
         }
+        headingsStandAheadOfTheirCalls(args.length > 0 ? args[0] : "src/main/java/CupReceipts.java");
         Check.end("FaceTest");
     }
 
@@ -75,5 +81,27 @@ public final class FaceTest {
                         ofTheFace || !name.startsWith(method.getName() + " "));
             }
         }
+    }
+
+    private static void headingsStandAheadOfTheirCalls(String path) throws IOException {
+        StringBuilder due = new StringBuilder();
+        String doc = Files.readString(Path.of("../shared/DOC.md"));
+        Matcher sentence = Pattern.compile("Ahead of the calls (.+) the interface says: (----.+)\\.").matcher(doc);
+        while (sentence.find()) {
+            due.append(sentence.group(2)).append(": ").append(sentence.group(1).replaceAll("[`,]", "")).append('\n');
+        }
+        StringBuilder told = new StringBuilder();
+        Matcher line = Pattern.compile("(?m)^    // (----.+)$|^    public int (\\w+)\\(")
+                .matcher(Files.readString(Path.of(path)));
+        while (line.find()) {
+            if (line.group(1) == null) {
+                told.append(' ').append(line.group(2));
+            } else {
+                told.append(told.length() == 0 ? "" : "\n").append(line.group(1)).append(':');
+            }
+        }
+        Check.isTrue("five headings", due.toString().split("\n").length == 5);
+        Check.isTrue("the class says\n" + told + "\nthe document\n" + due, told.append('\n').toString()
+                .equals(due.toString()));
     }
 }

@@ -153,7 +153,8 @@ public final class HistoryEdgesTest {
                     Probe.shownWithoutHistory(Make::furnished));
             for (int undos = 1; undos <= 3; undos++) {
                 int asked = undos;
-                Check.same(undos + " more after " + change.name, Probe.shownWithoutHistory(() -> undone(changed, asked)),
+                Check.same(undos + " more after " + change.name,
+                        Probe.shownWithoutHistory(() -> undone(changed, asked)),
                         Probe.shownWithoutHistory(() -> undone(Make::furnished, asked)));
             }
         }

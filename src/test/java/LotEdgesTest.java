@@ -1,4 +1,4 @@
-/** The boundary cases of the promises 1 to 6, and of what the terms say of lots and worths: a test for each sentence. */
+/** The boundary cases of the promises 1 to 6, and of what the terms say of lots and worths, a test each. */
 public final class LotEdgesTest {
     private static final int MOST = Check.MOST;
 

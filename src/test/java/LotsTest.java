@@ -49,7 +49,8 @@ public final class LotsTest {
         CupReceipts x = new CupReceipts();
         Check.equal("least lot", x.lot(1, 60), 0);
         Check.equal("greatest lot", x.lot(999, 100), 1);
-        int[][] wrong = {{0, 80}, {1000, 80}, {-1, 80}, {5, 59}, {5, 101}, {LEAST, 80}, {MOST, 80}, {5, LEAST}, {5, MOST}};
+        int[][] wrong = {{0, 80}, {1000, 80}, {-1, 80}, {5, 59}, {5, 101},
+            {LEAST, 80}, {MOST, 80}, {5, LEAST}, {5, MOST}};
         for (int[] one : wrong) {
             Check.equal("lot " + one[0] + " " + one[1], x.lot(one[0], one[1]), Check.INVALID);
         }

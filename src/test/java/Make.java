@@ -64,7 +64,7 @@ final class Make {
         return x;
     }
 
-    /** Something of everything: lots of all bands (20, 30, 1 and 9 bags), contracts for now and for later, a text, 4 states. */
+    /** Lots of all bands (20, 30, 1 and 9 bags), contracts for now and for later, a text, 4 states. */
     static CupReceipts furnished() {
         CupReceipts x = lots(20, 85, 30, 95, 11, 75, 9, 65);
         x.set(0, 10);

@@ -82,7 +82,8 @@ public final class RefusalTest {
     }
 
     private static void promise6RefusedWorth() {
-        changeNothing(Make::furnished, List.of(invalid("band", x -> x.worth(4, 5)), invalid("band", x -> x.worth(-1, 5)),
+        changeNothing(Make::furnished, List.of(
+                invalid("band", x -> x.worth(4, 5)), invalid("band", x -> x.worth(-1, 5)),
                 invalid("0", x -> x.worth(3, 0)), invalid("1000", x -> x.worth(3, 1000))));
     }
 
@@ -131,7 +132,8 @@ public final class RefusalTest {
     }
 
     private static void promise12To20RefusedLooks() {
-        changeNothing(Make::furnished, List.of(invalid("lotOf", x -> x.lotOf(4, 0)), invalid("lotOf", x -> x.lotOf(0, 7)),
+        changeNothing(Make::furnished, List.of(
+                invalid("lotOf", x -> x.lotOf(4, 0)), invalid("lotOf", x -> x.lotOf(0, 7)),
                 missing("numberOf", x -> x.numberOf(4)), invalid("contractOf", x -> x.contractOf(2, 0)),
                 missing("paid", x -> x.paid(3, 5, 0)), missing("given", x -> x.given(0, 9, 0)),
                 invalid("would", x -> x.would(0, 4)), missing("lift", x -> x.lift(0, 3, 100)),

@@ -197,7 +197,8 @@ public final class TellingTest {
         Check.equal("paid", x.would(0, 0), 3 * 145 + 4 * 118 + 3 * 160);
         Check.equal("gain", x.would(0, 1), 1000000 - 3 * 5 - 4 * 32 - 3 * 40);
         Check.equal("used up", x.would(0, 2), 2);
-        Check.equal("mean of the cups now", x.would(0, 3), Float.floatToIntBits((float) (3 * 79 + 4 * 70 + 3 * 84) / 10f));
+        float mean = (float) (3 * 79 + 4 * 70 + 3 * 84) / 10f;
+        Check.equal("mean of the cups now", x.would(0, 3), Float.floatToIntBits(mean));
         x.pass(2);
         int told = x.would(0, 0);
         Check.equal("meet pays as told", x.meet(0), told);

@@ -247,7 +247,7 @@ public final class TextEdgesTest {
         fault(Make.oneBagContracts(1, 80), "s1,5;m1;s0,5;", 8, 2, Check.IMPOSSIBLE);
     }
 
-    /** "The fault of the text is ... of the first order that is not possible": one of the form behind it is not looked at. */
+    /** "The fault of the text is ... of the first order that is not possible": those behind it are not looked at. */
     private static void promise24TheFirstFault() {
         fault(new CupReceipts(), "m1;c0;x", 3, 2, Check.INVALID);
         fault(new CupReceipts(), "m1;x;c0;", 3, 1, 0);
